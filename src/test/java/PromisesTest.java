@@ -88,6 +88,7 @@ public final class PromisesTest {
         Check.same("the calendar is new", x.at(2, 0, 0), 5);
         Check.compiled(x, 2, "1@0000-0030", 1);
         Check.same("nothing of the old one is left", x.at(2, 0, 1), 0);
+        Check.same("no rule of the old one is left", x.which(2, 0, 1), 0);
         Check.noState("the others are not compiled", () -> x.at(1, 0, 0));
     }
 
@@ -112,6 +113,8 @@ public final class PromisesTest {
         fault("1@0830-0805", 10);
         fault("1@0000-000", 9);
         fault("1@0000-2401", 10);
+        fault("1@0000-2430", 9);
+        fault("1@0830-0830", 9);
         fault("1@0800-1200;x", 12);
         fault("1W8", 2);
         fault("1W11", 3);
@@ -126,6 +129,7 @@ public final class PromisesTest {
         fault("1D0630-0631", 10);
         fault("1D1231;", 6);
         fault("1P01", 3);
+        fault("1C00", 3);
         fault("1C0505", 5);
         fault("1C051", 4);
         fault("1C9999", 5);
@@ -375,6 +379,8 @@ public final class PromisesTest {
         Check.same("2008", x.feast(2008), 323);
         Check.same("2024", x.feast(2024), 331);
         Check.same("2299", x.feast(2299), 416);
+        Check.same("1899", x.feast(1899), NONE);
+        Check.same("2300", x.feast(2300), NONE);
         Check.same("MAX", x.feast(MAX), NONE);
         Check.same("MIN", x.feast(MIN), NONE);
     }
