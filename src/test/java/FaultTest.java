@@ -10,6 +10,10 @@ public final class FaultTest {
     private static final String ALPHABET = "0123456789;@-WNDPCFYL+!&|()x ";
     private static final Pattern RULES = rules();
     private static final Random CHANCE = new Random(20000101);
+    /** An object is good for 512 calls: five of the longest texts and their compiling. */
+    private static final int TEXTS_AN_OBJECT = 5;
+    private static RuleCalendar x;
+    private static int texts = 0;
 
     private FaultTest() {
     }
@@ -21,7 +25,7 @@ public final class FaultTest {
         everyNextCharacter("0@2330-2400(((W7)))");
         everyNextCharacter("1;1;1;1;1;1;1;1;1;1;1;1");
         everySpanEnd();
-        for (int n = 0; n < 20000; n++) {
+        for (int n = 0; n < 10000; n++) {
             faultIsDue(damaged(someRules()));
         }
         Check.end("FaultTest");
@@ -44,7 +48,10 @@ public final class FaultTest {
     }
 
     private static void faultIsDue(String text) {
-        RuleCalendar x = new RuleCalendar();
+        if (texts % TEXTS_AN_OBJECT == 0) {
+            x = new RuleCalendar();
+        }
+        texts++;
         Check.type(x, text);
         int got = x.compile(0);
         if (RULES.matcher(text).matches()) {
@@ -54,14 +61,20 @@ public final class FaultTest {
         }
     }
 
+    /** How long the longest beginning of rules is: what begins a beginning is one too, so halving finds it. */
     private static int fault(String text) {
-        for (int place = 0; place < text.length(); place++) {
-            Matcher matcher = RULES.matcher(text.substring(0, place + 1));
-            if (!matcher.matches() && !matcher.hitEnd()) {
-                return place;
+        int sure = 0;
+        int most = text.length();
+        while (sure < most) {
+            int half = (sure + most + 1) / 2;
+            Matcher matcher = RULES.matcher(text.substring(0, half));
+            if (matcher.matches() || matcher.hitEnd()) {
+                sure = half;
+            } else {
+                most = half - 1;
             }
         }
-        return text.length();
+        return sure;
     }
 
     private static Pattern rules() {

@@ -38,7 +38,7 @@ public final class ModelTest {
         dates();
         feasts();
         clocks();
-        for (int n = 0; n < 400; n++) {
+        for (int n = 0; n < 600; n++) {
             calendars();
         }
         Check.end("ModelTest");
@@ -122,7 +122,7 @@ public final class ModelTest {
             List<int[]> times = TIMES.get(on);
             Check.same("times", times.size(), 70128);
             for (int time = 0; time < times.size(); time++) {
-                if (time % 200 == 0) {
+                if (time % 160 == 0) {
                     x = new RuleCalendar();
                     x.shifts(on == 1);
                 }
@@ -285,7 +285,7 @@ public final class ModelTest {
     private static void calendars() {
         RuleCalendar x = new RuleCalendar();
         Calendar[] model = {someCalendar(x, 0), someCalendar(x, 1)};
-        for (int n = 0; n < 10; n++) {
+        for (int n = 0; n < 5; n++) {
             int on = CHANCE.nextInt(2);
             x.shifts(on == 1);
             int c = CHANCE.nextInt(2);

@@ -92,73 +92,67 @@ public final class PromisesTest {
         Check.noState("the others are not compiled", () -> x.at(1, 0, 0));
     }
 
-    private static void fault(String text, int place) {
-        RuleCalendar x = new RuleCalendar();
-        Check.compiled(x, 0, text, -1 - place);
-        Check.noState("a fault compiles nothing: " + text, () -> x.at(0, 0, 0));
-    }
-
     private static void compileRefusesOnlyAtFaults() {
-        fault("", 0);
-        fault("W1", 0);
-        fault(";", 0);
-        fault("1;;", 2);
-        fault("12", 1);
-        fault("1 ", 1);
-        fault("1@0800-1200@0800-1200", 11);
-        fault("1@3", 2);
-        fault("1@0800-25", 8);
-        fault("1@0830-0800;", 12);
-        fault("1@0830-0810", 9);
-        fault("1@0830-0805", 10);
-        fault("1@0000-000", 9);
-        fault("1@0000-2401", 10);
-        fault("1@0000-2430", 9);
-        fault("1@0830-0830", 9);
-        fault("1@0800-1200;x", 12);
-        fault("1W8", 2);
-        fault("1W11", 3);
-        fault("1W78", 3);
-        fault("1N0", 2);
-        fault("1Nl1", 2);
-        fault("1N10", 3);
-        fault("1D00", 3);
-        fault("1D2", 2);
-        fault("1D0132", 5);
-        fault("1D0229-023", 9);
-        fault("1D0630-0631", 10);
-        fault("1D1231;", 6);
-        fault("1P01", 3);
-        fault("1C00", 3);
-        fault("1C0505", 5);
-        fault("1C051", 4);
-        fault("1C9999", 5);
-        fault("1F00", 2);
-        fault("1F+0", 4);
-        fault("1F+0a", 4);
-        fault("1Y1999", 2);
-        fault("1Y2004", 5);
-        fault("1Y2002-2001", 10);
-        fault("1!", 2);
-        fault("1!!&", 3);
-        fault("1()", 2);
-        fault("1(W1", 4);
-        fault("1(W1;", 4);
-        fault("1W1)", 3);
-        fault("1W1&", 4);
-        fault("1W1|;", 4);
-        fault("1W1!W2", 3);
-        fault("1w1", 1);
+        Check.fault("", 0);
+        Check.fault("W1", 0);
+        Check.fault(";", 0);
+        Check.fault("1;;", 2);
+        Check.fault("12", 1);
+        Check.fault("1 ", 1);
+        Check.fault("1@0800-1200@0800-1200", 11);
+        Check.fault("1@3", 2);
+        Check.fault("1@0800-25", 8);
+        Check.fault("1@0830-0800;", 12);
+        Check.fault("1@0830-0810", 9);
+        Check.fault("1@0830-0805", 10);
+        Check.fault("1@0000-000", 9);
+        Check.fault("1@0000-2401", 10);
+        Check.fault("1@0000-2430", 9);
+        Check.fault("1@0830-0830", 9);
+        Check.fault("1@0800-1200;x", 12);
+        Check.fault("1W8", 2);
+        Check.fault("1W11", 3);
+        Check.fault("1W78", 3);
+        Check.fault("1N0", 2);
+        Check.fault("1Nl1", 2);
+        Check.fault("1N10", 3);
+        Check.fault("1D00", 3);
+        Check.fault("1D2", 2);
+        Check.fault("1D0132", 5);
+        Check.fault("1D0229-023", 9);
+        Check.fault("1D0630-0631", 10);
+        Check.fault("1D1231;", 6);
+        Check.fault("1P01", 3);
+        Check.fault("1C00", 3);
+        Check.fault("1C0505", 5);
+        Check.fault("1C051", 4);
+        Check.fault("1C9999", 5);
+        Check.fault("1F00", 2);
+        Check.fault("1F+0", 4);
+        Check.fault("1F+0a", 4);
+        Check.fault("1Y1999", 2);
+        Check.fault("1Y2004", 5);
+        Check.fault("1Y2002-2001", 10);
+        Check.fault("1!", 2);
+        Check.fault("1!!&", 3);
+        Check.fault("1()", 2);
+        Check.fault("1(W1", 4);
+        Check.fault("1(W1;", 4);
+        Check.fault("1W1)", 3);
+        Check.fault("1W1&", 4);
+        Check.fault("1W1|;", 4);
+        Check.fault("1W1!W2", 3);
+        Check.fault("1w1", 1);
     }
 
     private static void compileKeepsLimits() {
         Check.with("1;2;3;4;5;6;7;8;9;0;1;2", 12);
-        fault("1;2;3;4;5;6;7;8;9;0;1;2;", 23);
-        fault("1;2;3;4;5;6;7;8;9;0;1;2;3", 23);
+        Check.fault("1;2;3;4;5;6;7;8;9;0;1;2;", 23);
+        Check.fault("1;2;3;4;5;6;7;8;9;0;1;2;3", 23);
         Check.with("1(((W1)))", 1);
         Check.with("1(((W1)|(W2))&((W3)))|(((W4)))", 1);
-        fault("1((((W1))))", 4);
-        fault("1W1&(W2|((!(W3))))", 11);
+        Check.fault("1((((W1))))", 4);
+        Check.fault("1W1&(W2|((!(W3))))", 11);
         StringBuilder nots = new StringBuilder("1");
         for (int n = 0; n < 97; n++) {
             nots.append('!');
@@ -166,7 +160,7 @@ public final class PromisesTest {
         RuleCalendar x = Check.with(nots + "W1", 1);
         Check.same("97 nots, Saturday", x.at(0, 0, 0), 1);
         Check.same("97 nots, Monday", x.at(0, 2, 0), 0);
-        fault(nots + "!!", 100);
+        Check.fault(nots + "!!", 100);
     }
 
     private static void shifts() {
@@ -219,48 +213,40 @@ public final class PromisesTest {
         Check.same("the last day", y.total(0, 0, 1461, 4), 4);
     }
 
-    private static void matchedDays(String matcher, int from, int to, int... days) {
-        RuleCalendar x = Check.with("1" + matcher, 1);
-        Check.same(matcher + " total", x.total(0, from, to, 1), 48L * days.length);
-        for (int day : days) {
-            Check.same(matcher + " on " + day, x.at(0, day, 11), 1);
-        }
-    }
-
     private static void atAtoms() {
-        matchedDays("W17", 0, 10, 1, 2, 8, 9);
-        matchedDays("N16", 0, 60, 0, 35);
-        matchedDays("N56", 0, 91, 28);
-        matchedDays("NL2", 31, 91, 59, 87);
-        matchedDays("NL4", 366, 456, 390, 418, 453);
-        matchedDays("D0228-0301", 0, 1461, 58, 59, 60, 424, 425, 789, 790, 1154, 1155);
-        matchedDays("D0229-0229", 0, 1461, 59);
-        matchedDays("D1230-0102", 0, 1461,
+        Check.matched("W17", 0, 10, 1, 2, 8, 9);
+        Check.matched("N16", 0, 60, 0, 35);
+        Check.matched("N56", 0, 91, 28);
+        Check.matched("NL2", 31, 91, 59, 87);
+        Check.matched("NL4", 366, 456, 390, 418, 453);
+        Check.matched("D0228-0301", 0, 1461, 58, 59, 60, 424, 425, 789, 790, 1154, 1155);
+        Check.matched("D0229-0229", 0, 1461, 59);
+        Check.matched("D1230-0102", 0, 1461,
                 0, 1, 364, 365, 366, 367, 729, 730, 731, 732, 1094, 1095, 1096, 1097, 1459, 1460);
-        matchedDays("P0", 0, 16, 0, 1, 9, 10, 11, 12, 13, 14, 15);
-        matchedDays("P1", 1440, 1461, 1444, 1445, 1446, 1447, 1448, 1449, 1450, 1458, 1459, 1460);
-        matchedDays("C9998", 0, 300, 98, 197, 296);
-        matchedDays("C0703", 0, 20, 3, 10, 17);
-        matchedDays("F+00", 0, 1461, 113, 470, 820, 1205);
-        matchedDays("F-00", 0, 1461, 113, 470, 820, 1205);
-        matchedDays("F+49", 0, 1461, 162, 519, 869, 1254);
+        Check.matched("P0", 0, 16, 0, 1, 9, 10, 11, 12, 13, 14, 15);
+        Check.matched("P1", 1440, 1461, 1444, 1445, 1446, 1447, 1448, 1449, 1450, 1458, 1459, 1460);
+        Check.matched("C9998", 0, 300, 98, 197, 296);
+        Check.matched("C0703", 0, 20, 3, 10, 17);
+        Check.matched("F+00", 0, 1461, 113, 470, 820, 1205);
+        Check.matched("F-00", 0, 1461, 113, 470, 820, 1205);
+        Check.matched("F+49", 0, 1461, 162, 519, 869, 1254);
         // The feast of 2002 has fewer than 99 days of its own year before it.
-        matchedDays("F-99", 0, 1461, 14, 371, 1106);
-        matchedDays("Y2000-2000&C0100", 364, 368, 364, 365);
-        matchedDays("Y2001-2002&(D0101-0101|D1231-1231)", 0, 1461, 366, 730, 731, 1095);
+        Check.matched("F-99", 0, 1461, 14, 371, 1106);
+        Check.matched("Y2000-2000&C0100", 364, 368, 364, 365);
+        Check.matched("Y2001-2002&(D0101-0101|D1231-1231)", 0, 1461, 366, 730, 731, 1095);
         RuleCalendar x = Check.with("1C0100", 1);
         Check.same("C0100", x.total(0, 0, 1461, 1), 70128);
     }
 
     private static void atOperators() {
-        matchedDays("!W1234567", 0, 1461);
-        matchedDays("W6|W7&C0700", 0, 7, 0);
-        matchedDays("(W6|W7)&C0701", 0, 7, 1);
-        matchedDays("!W6&W67", 0, 7, 1);
-        matchedDays("!(W6|W7)&W567", 0, 7, 6);
-        matchedDays("!!W6", 0, 7, 0);
-        matchedDays("!(!(!(W6|W5)|W1)&W56)", 0, 7, 1, 2, 3, 4, 5);
-        matchedDays("W1&W2|W3&(W3|W4)&!C0700|W5", 0, 7, 4, 6);
+        Check.matched("!W1234567", 0, 1461);
+        Check.matched("W6|W7&C0700", 0, 7, 0);
+        Check.matched("(W6|W7)&C0701", 0, 7, 1);
+        Check.matched("!W6&W67", 0, 7, 1);
+        Check.matched("!(W6|W7)&W567", 0, 7, 6);
+        Check.matched("!!W6", 0, 7, 0);
+        Check.matched("!(!(!(W6|W5)|W1)&W56)", 0, 7, 1, 2, 3, 4, 5);
+        Check.matched("W1&W2|W3&(W3|W4)&!C0700|W5", 0, 7, 4, 6);
     }
 
     private static void which() {
@@ -477,18 +463,9 @@ public final class PromisesTest {
         Check.same("the last lives", y.dead(0, 11), NONE);
     }
 
-    private static void runs(RuleCalendar x, int day, int[][] due) {
-        for (int i = 0; i <= due.length; i++) {
-            for (int what = 0; what < 3; what++) {
-                Check.same("run " + i + " what " + what + " of day " + day,
-                        x.run(0, day, i, what), i < due.length ? due[i][what] : NONE);
-            }
-        }
-    }
-
     private static void run() {
         RuleCalendar x = Check.with("1@0000-0200;1@0200-0400;2@0400-0430;1@0500-0600;3@2330-2400", 5);
-        runs(x, 3, new int[][] {{0, 7, 1}, {8, 8, 2}, {10, 11, 1}, {47, 47, 3}});
+        Check.runs(x, 3, new int[][] {{0, 7, 1}, {8, 8, 2}, {10, 11, 1}, {47, 47, 3}});
         Check.same("what 3", x.run(0, 3, 0, 3), NONE);
         Check.same("what -1", x.run(0, 3, 0, -1), NONE);
         Check.same("i -1", x.run(0, 3, -1, 0), NONE);
@@ -502,16 +479,16 @@ public final class PromisesTest {
 
     private static void runOnShiftedDays() {
         RuleCalendar x = Check.with("1@0100-0200;2@0200-0300;1@0300-0400", 3);
-        runs(x, 85, new int[][] {{2, 3, 1}, {4, 5, 2}, {6, 7, 1}});
+        Check.runs(x, 85, new int[][] {{2, 3, 1}, {4, 5, 2}, {6, 7, 1}});
         x.shifts(true);
-        runs(x, 85, new int[][] {{2, 7, 1}});
-        runs(x, 302, new int[][] {{2, 3, 1}, {4, 5, 2}, {6, 7, 1}});
+        Check.runs(x, 85, new int[][] {{2, 7, 1}});
+        Check.runs(x, 302, new int[][] {{2, 3, 1}, {4, 5, 2}, {6, 7, 1}});
         RuleCalendar y = Check.with("1@0100-0230;2@0300-0400", 2);
         y.shifts(true);
-        runs(y, 85, new int[][] {{2, 3, 1}, {6, 7, 2}});
+        Check.runs(y, 85, new int[][] {{2, 3, 1}, {6, 7, 2}});
         RuleCalendar z = Check.with("1@0200-0300", 1);
         z.shifts(true);
-        runs(z, 85, new int[][] {});
+        Check.runs(z, 85, new int[][] {});
     }
 
     private static void throwingChangesNothing() {
